@@ -87,6 +87,19 @@ public final class CardTest {
         CHECK.due("its first", 12, works.onCard(1, 0));
         CHECK.due("thickness", 2, works.cardOf(1, 4));
 
+        ButtonWorks mixed = Works.strong();
+        mixed.list(1, 9, 1);
+        mixed.list(1, 4, 1);
+        mixed.shell(1, 6, 0, 0x444449, 0, 0, 0, 0, 0);
+        mixed.cut(0);
+        Works.smallButtons(mixed, 2, 0, 4);
+        Works.smallButtons(mixed, 2, 0, 9);
+        Works.turnAndDrill(mixed, 0, 30, 2);
+        CHECK.due("the first alone counts, not the second", 0, mixed.card(1, 2, 0, 0));
+        CHECK.due("first", 0, mixed.onCard(0, 0));
+        CHECK.due("second", 18, mixed.onCard(0, 1));
+        CHECK.due("thickness 9", 9, mixed.cardOf(0, 3));
+
         ButtonWorks few = Works.strong();
         Works.smallButtons(few, 1, 0, 7);
         Works.smallButtons(few, 2, 0, 2);

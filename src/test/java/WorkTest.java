@@ -255,6 +255,8 @@ public final class WorkTest {
         CHECK.due("not below 0", 12, works.bleach(1, 9));
         CHECK.due("tint", 0, works.button(17, 2));
         CHECK.due("none is another one", 0, works.bleach(1, 1));
+        CHECK.due("six of shell 0", 6, works.bleach(0, 1));
+        CHECK.due("the first of all", 4, works.button(0, 2));
         works.shell(1, 1, 3, 2, 0, 0, 0, 0, 0);
         CHECK.due("a shell that is not cut", 0, works.bleach(2, 9));
         works.cut(2);
