@@ -7,8 +7,12 @@ final class Check {
     private int wrong = 0;
 
     void due(String call, int want, int got) {
+        due(call, Integer.toString(want), Integer.toString(got));
+    }
+
+    void due(String call, String want, String got) {
         asked++;
-        if (got != want) {
+        if (!got.equals(want)) {
             wrong++;
             System.out.println(call + " answered " + got + ", due is " + want);
         }
