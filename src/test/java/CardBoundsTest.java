@@ -260,16 +260,28 @@ public final class CardBoundsTest {
         run.due(12, "onCard", 0, 6);
         run.due(2, "button", 6, 4);
 
-        Run edge = run("of like ones the least t: t is 1 and not 2");
+        Run edge = run("THICKNESSES t from 1 on: the least t is 1");
         edge.strong();
-        edge.drilled(1, 0, 9);
+        edge.drilled(1, 0, 1);
         edge.drilled(1, 0, 2);
         edge.drilled(1, 0, 1);
-        edge.due(0, "card", 1, 2, 0, 8);
-        edge.due(2, "cardOf", 0, 3);
-        edge.drilled(1, 0, 9);
-        edge.due(1, "card", 1, 2, 0, 8);
-        edge.due(12, "onCard", 1, 0);
+        // t is 1: those of 1 and of 2; those of 1 alone would be a t of 0.
+        edge.due(0, "card", 1, 2, 0, 1);
+        edge.due(6, "onCard", 0, 6);
+        edge.due(2, "cardOf", 0, 4);
+
+        Run last = run("THICKNESSES t from 1 on: the greatest t is 9");
+        last.strong();
+        last.drilled(1, 0, 9);
+        last.drilled(2, 0, 8);
+        last.drilled(1, 0, 9);
+        // t is 9 alone with a span of 0, and 1 with a span of 8.
+        last.due(0, "card", 1, 2, 0, 0);
+        last.due(0, "onCard", 0, 0);
+        last.due(18, "onCard", 0, 6);
+        last.due(9, "cardOf", 0, 3);
+        last.due(1, "card", 1, 2, 0, 8);
+        last.due(8, "cardOf", 1, 4);
     }
 
     private static void atMostThirtyCards() {

@@ -21,6 +21,7 @@ public final class CutBoundsTest {
         aShellIsCutOnce();
         inOrderOfTheirPlaces();
         atMostFourHundredButtons();
+        upToThe512thCall();
         CHECK.finish();
     }
 
@@ -152,6 +153,19 @@ public final class CutBoundsTest {
         run.due(15, "best", 6, 0);
         run.due(7, "shell", 6, 6, 0, 0x000111, 0x000111, 0x000111, 0x111000, 0x111000, 0x111000);
         run.due(30, "best", 7, 0);
+
+        Run beside = run("BLANKS that have no place in common: below on the left, and between two");
+        beside.does("list", 1, 1, 1);
+        beside.does("list", 2, 1, 10);
+        beside.does("list", 3, 1, 50);
+        beside.due(0, "shell", 2, 3, 0, 0x110, 0x111);
+        sizes(beside, 0, 0, 2, 0, 1, 0, 0);
+        beside.due(1, "shell", 2, 5, 0, 0x11011, 0x11111);
+        sizes(beside, 1, 2, 0, 0, 2, 0, 0, 0, 1, 0, 0);
+        beside.due(2, "shell", 3, 5, 0, 0x11100, 0x11111, 0x11111);
+        sizes(beside, 2, 0, 0, 3, 0, 0, 2, 0, 0, 0, 0, 0, 0, 0, 0, 0);
+        beside.due(3, "shell", 3, 6, 0, 0x111000, 0x111110, 0x111111);
+        sizes(beside, 3, 0, 0, 0, 3, 0, 0, 0, 2, 0, 0, 0, 0, 1, 0, 0, 0, 0, 0);
     }
 
     private static void theGreatestSum() {
@@ -361,5 +375,15 @@ public final class CutBoundsTest {
         run.due(0, "cut", 13);
         run.due(0, "cut", 11);
         run.due(400, "count", 1);
+    }
+
+    private static void upToThe512thCall() {
+        Run run = run("An object is used for at most 512 calls");
+        run.even(6, 0, 1);
+        run.due(0, "list", 1, 1, 1);
+        for (int worth = 2; worth <= 256; worth++) {
+            run.due(36 * (worth - 1), "best", 0, 0);
+            run.due(worth - 1, "list", 1, 1, worth);
+        }
     }
 }

@@ -17,6 +17,7 @@ public final class OrderBoundsTest {
         cardsThatAreNotSent();
         ordersThatAreNotSent();
         byTheirDays();
+        byTheirDaysInEachOrder();
         ofLikeDaysByNumber();
         cardsOfTheLeastNumbers();
         behindItsDay();
@@ -241,6 +242,29 @@ public final class OrderBoundsTest {
         run.due(7, "send", 1);
         run.due(-1, "sent", 0);
         run.due(1, "sent", 3);
+    }
+
+    /** Each card goes to the next order, so that the cards tell the order of the orders. */
+    private static void byTheirDaysInEachOrder() {
+        for (int drawn = 0; drawn < 81; drawn++) {
+            int[] days = {drawn % 3, drawn / 3 % 3, drawn / 9 % 3, drawn / 27};
+            Run run = run("by their DAYS (of like ones by number), days " + java.util.Arrays.toString(days));
+            run.strong();
+            run.cards(4, 0, 1);
+            for (int order = 0; order < 4; order++) {
+                run.due(order, "order", 1, 1, 2, 0, 9, days[order], 1);
+            }
+            run.due(4, "send", 0);
+            int card = 0;
+            for (int day = 0; day < 3; day++) {
+                for (int order = 0; order < 4; order++) {
+                    if (days[order] == day) {
+                        run.due(order, "cardOf", card, 5);
+                        card++;
+                    }
+                }
+            }
+        }
     }
 
     private static void ofLikeDaysByNumber() {

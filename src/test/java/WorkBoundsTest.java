@@ -29,6 +29,7 @@ public final class WorkBoundsTest {
         noOtherWhatOfAMachine();
         hoursNoughtToNine();
         tintNotBelowNought();
+        bleachedFromTheFirstToTheLast();
         bleachedAreNotTheBrokenOrThoseOnACard();
         CHECK.finish();
     }
@@ -87,10 +88,10 @@ public final class WorkBoundsTest {
         for (int machine = 0; machine <= 5; machine++) {
             run.due(100, "stands", machine, 1);
             run.due(1, "stands", machine, 10000);
+            run.due(10000, "stands", machine, 50 + machine);
             for (int v : new int[] {LEAST, -1, 0, 10001, 10002, MOST}) {
                 run.badArgument("stands", machine, v);
             }
-            run.due(10000, "stands", machine, 50 + machine);
         }
         for (int machine = 0; machine <= 5; machine++) {
             run.due(50 + machine, "machine", machine, 1);
@@ -476,7 +477,20 @@ public final class WorkBoundsTest {
                 shells++;
             }
         }
-        run.due(0, "button", 0, 2);
+    }
+
+    private static void bleachedFromTheFirstToTheLast() {
+        Run run = run("the TINTS of all BUTTONS of a SHELL");
+        for (int shell = 0; shell < 3; shell++) {
+            run.blanks(1, 9, 1);
+        }
+        for (int shell = 0; shell < 3; shell++) {
+            run.due(6, "bleach", shell, 1 + shell);
+            for (int button = 0; button < 18; button++) {
+                int of = button / 6;
+                run.due(of <= shell ? 8 - of : 9, "button", button, 2);
+            }
+        }
     }
 
     private static void bleachedAreNotTheBrokenOrThoseOnACard() {
