@@ -533,7 +533,7 @@ public final class ButtonWorks {
      * the greater score has the greater worth or, of like worths, fewer blanks.
      */
     private static final class Cutter {
-        private static final int[] POWERS = {1, 3, 9, 27, 81, 243, 729};
+        private static final int[] POWERS = {1, 3, 9, 27, 81, 243};
         /** For a size, the profile in which that many columns from column 0 on are taken once. */
         private static final int[] ONCE_TAKEN = {0, 1, 4, 13};
         private static final int PROFILES = 729;
@@ -606,7 +606,7 @@ public final class ButtonWorks {
 
         /** The depth of this recursion is the place, which grows with each level up to 36. */
         private int scoreFrom(int place, int profile) {
-            if (place >= PLACES) {
+            if (!isWithin(place, 0, PLACES - 1) || !isWithin(profile, 0, PROFILES - 1)) {
                 return 0;
             }
             int at = place * PROFILES + profile;
